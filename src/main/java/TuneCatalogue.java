@@ -34,7 +34,7 @@ public final class TuneCatalogue {
 
     public int add(int pitch, int length) throws IllegalArgumentException, IllegalStateException {
         refuseUnlessNote(pitch, length);
-        if (entered >= entries.length) {
+        if (!isWithin(entered, 0, entries.length - 1)) {
             throw new IllegalStateException("there are as many tunes as there may be");
         }
         Tune tune = new Tune();
@@ -401,11 +401,15 @@ public final class TuneCatalogue {
                 return false;
             }
             for (int index = 0; index < other.size - 1; index++) {
-                if (Integer.signum(stepFrom(index)) != Integer.signum(other.stepFrom(index))) {
+                if (direction(stepFrom(index)) != direction(other.stepFrom(index))) {
                     return false;
                 }
             }
             return true;
+        }
+
+        private static int direction(int step) {
+            return step > 0 ? 1 : step < 0 ? -1 : 0;
         }
     }
 
@@ -570,7 +574,11 @@ public final class TuneCatalogue {
             for (int links = 1; links < partners.size(); links++) {
                 reached = withPartners(reached);
             }
-            return Integer.numberOfTrailingZeros(reached);
+            int lowest = 0;
+            while (lowest < tune && (reached & setOf(lowest)) == 0) {
+                lowest++;
+            }
+            return lowest;
         }
 
         private int withPartners(int set) {

@@ -139,6 +139,11 @@ public final class HumTest {
         Some.hum(x, 10, 30, 12);
         // Free of cost if both a note and a pitch could be left out at once.
         both("not both at once", x, 0, 20 * 38);
+        TuneCatalogue w = Some.of(Some.row(10, 40, 12, 14));
+        Some.hum(w, 10, 12, 12, 14);
+        both("a note, and behind it a pitch", w, 0, 3 + 1);
+        Some.hum(w, 10, 10, 40, 14);
+        both("a pitch, and behind it a note", w, 0, 1 + 3);
         TuneCatalogue y = Some.of(Some.row(10, 12));
         Some.hum(y, 10, 12, 14, 16, 18, 20, 22);
         both("more pitches than notes", y, 0, -1);
@@ -220,10 +225,19 @@ public final class HumTest {
         check.same("19: up, stays, down, up", x.likeContour(), 2);
         x.hum(1);
         check.same("19: none is so long", x.likeContour(), 0);
+        Some.hum(x, 0, 5);
+        check.same("19: the first pitch tells nothing", x.likeContour(), 7);
         Some.hum(x, 9, 8);
         check.same("19: down", x.likeContour(), 16);
         x.retire(4);
         check.same("19: retired", x.likeContour(), 0);
+        TuneCatalogue y = Some.of(Some.row(20, 22), Some.row(20, 20), Some.row(20, 18));
+        Some.hum(y, 5, 6);
+        check.same("19: up alone", y.likeContour(), 1);
+        Some.hum(y, 5, 5);
+        check.same("19: stays alone", y.likeContour(), 2);
+        Some.hum(y, 5, 4);
+        check.same("19: down alone", y.likeContour(), 4);
         for (int tune = 5; tune < 16; tune++) {
             x.add(9, 1);
         }

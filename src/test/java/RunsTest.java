@@ -37,6 +37,9 @@ public final class RunsTest {
         check.same("21: the last two, first", x.place(2, 0), 2);
         check.same("21: the last two, second", x.place(2, 1), 100);
         check.same("20: all three", x.places(3), 0);
+        TuneCatalogue y = Some.of(Some.row(0, 30, 32, 0));
+        Some.hum(y, 29, 30, 32);
+        check.same("20: no step is ahead of the hum or behind it", y.places(1), 1);
         check.same("20: the last one", x.places(1), 2);
         check.same("21: the last one", x.place(1, 0), 3);
     }

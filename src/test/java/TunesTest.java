@@ -214,10 +214,15 @@ public final class TunesTest {
         check.same("10: the same of one note", x.shared(2, 2), 0);
         x.retire(0);
         check.same("10: a retired one", x.shared(0, 1), 3);
+        check.same("10: a retired other one", x.shared(1, 0), 3);
+        check.same("10: the same retired one", x.shared(0, 0), 5);
         for (int tune : Some.row(-1, 4, Integer.MIN_VALUE, Integer.MAX_VALUE)) {
             check.throwsJust("10: one " + tune, Some.INDEX, () -> x.shared(tune, 0));
             check.throwsJust("10: other " + tune, Some.INDEX, () -> x.shared(0, tune));
         }
+        TuneCatalogue z = Some.of(Some.row(2, 9), Some.row(20, 22, 29), Some.row(22, 29, 20));
+        check.same("10: there is no step to the first note", z.shared(0, 1) + 10 * z.shared(1, 0), 11);
+        check.same("10: there is no step from the last note", z.shared(0, 2) + 10 * z.shared(2, 0), 11);
         TuneCatalogue y = new TuneCatalogue();
         for (int tune = 0; tune < 2; tune++) {
             y.add(tune, 1);
