@@ -13,16 +13,8 @@ public final class FamiliesTest {
         check.end("FamiliesTest");
     }
 
-    private static TuneCatalogue ofTunes(int tunes) {
-        TuneCatalogue x = new TuneCatalogue();
-        for (int tune = 0; tune < tunes; tune++) {
-            x.add(tune, 1);
-        }
-        return x;
-    }
-
     private static void linkAndCut() {
-        TuneCatalogue x = ofTunes(5);
+        TuneCatalogue x = Some.ofTunes(5);
         check.same("25: each its own", x.families(), 5);
         check.same("24: its own", x.family(4), 4);
         check.same("22: two", x.link(4, 2), 4);
@@ -43,7 +35,7 @@ public final class FamiliesTest {
     }
 
     private static void detours() {
-        TuneCatalogue x = ofTunes(3);
+        TuneCatalogue x = Some.ofTunes(3);
         x.link(0, 1);
         x.link(1, 2);
         check.same("22: a ring", x.link(2, 0), 1);
@@ -54,7 +46,7 @@ public final class FamiliesTest {
     }
 
     private static void longChain() {
-        TuneCatalogue x = ofTunes(16);
+        TuneCatalogue x = Some.ofTunes(16);
         for (int tune = 1; tune < 15; tune++) {
             x.link(tune, tune + 1);
         }
@@ -67,7 +59,7 @@ public final class FamiliesTest {
     }
 
     private static void retired() {
-        TuneCatalogue x = ofTunes(4);
+        TuneCatalogue x = Some.ofTunes(4);
         x.link(0, 1);
         x.link(1, 2);
         x.retire(1);
@@ -81,7 +73,7 @@ public final class FamiliesTest {
     }
 
     private static void wrongLinks() {
-        TuneCatalogue x = ofTunes(3);
+        TuneCatalogue x = Some.ofTunes(3);
         x.link(0, 1);
         for (int tune : Some.row(-1, 3, 16, 32, Integer.MIN_VALUE, Integer.MAX_VALUE)) {
             check.throwsJust("22: one " + tune, Some.INDEX, () -> x.link(tune, 1));
@@ -97,7 +89,7 @@ public final class FamiliesTest {
     }
 
     private static void wrongCuts() {
-        TuneCatalogue x = ofTunes(3);
+        TuneCatalogue x = Some.ofTunes(3);
         x.link(0, 1);
         x.link(1, 2);
         for (int tune : Some.row(-1, 3, 16, 32, Integer.MIN_VALUE, Integer.MAX_VALUE)) {
@@ -113,7 +105,7 @@ public final class FamiliesTest {
     }
 
     private static void wrongFamilies() {
-        TuneCatalogue x = ofTunes(2);
+        TuneCatalogue x = Some.ofTunes(2);
         for (int tune : Some.row(-1, 2, 16, Integer.MIN_VALUE, Integer.MAX_VALUE)) {
             check.throwsJust("24: tune " + tune, Some.INDEX, () -> x.family(tune));
         }

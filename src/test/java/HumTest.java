@@ -21,11 +21,6 @@ public final class HumTest {
         check.same("16: " + what, x.costByAll(tune), due);
     }
 
-    private static int priced(TuneCatalogue x, int slip, int ornament, int repeat) {
-        x.setCosts(slip, ornament, repeat);
-        return 0;
-    }
-
     private static void hum() {
         TuneCatalogue x = new TuneCatalogue();
         check.same("12: none", x.hush(), 0);
@@ -52,9 +47,9 @@ public final class HumTest {
         Some.hum(x, 10, 40);
         check.same("14: 3 for an ornament at first", x.cost(0), 3);
         for (int cost : Some.row(-1, 21, Integer.MIN_VALUE, Integer.MAX_VALUE)) {
-            check.throwsJust("14: slip " + cost, Some.ARGUMENT, () -> priced(x, cost, 0, 0));
-            check.throwsJust("14: ornament " + cost, Some.ARGUMENT, () -> priced(x, 0, cost, 0));
-            check.throwsJust("14: repeat " + cost, Some.ARGUMENT, () -> priced(x, 0, 0, cost));
+            check.throwsJust("14: slip " + cost, Some.ARGUMENT, () -> Some.priced(x, cost, 0, 0));
+            check.throwsJust("14: ornament " + cost, Some.ARGUMENT, () -> Some.priced(x, 0, cost, 0));
+            check.throwsJust("14: repeat " + cost, Some.ARGUMENT, () -> Some.priced(x, 0, 0, cost));
         }
         check.same("14: nothing has changed", x.cost(0), 3);
         x.setCosts(20, 20, 20);

@@ -139,24 +139,19 @@ public final class TunesTest {
         TuneCatalogue x = Some.of(Some.row(1, 59, 30), Some.row(30));
         x.retire(1);
         for (int tune : Some.row(-1, 1, 2, Integer.MIN_VALUE, Integer.MAX_VALUE)) {
-            check.throwsJust("5: tune " + tune, Some.INDEX, () -> shifted(x, tune, 61));
+            check.throwsJust("5: tune " + tune, Some.INDEX, () -> Some.shifted(x, tune, 61));
         }
         for (int by : Some.row(-61, 61, Integer.MIN_VALUE, Integer.MAX_VALUE)) {
-            check.throwsJust("5: by " + by, Some.ARGUMENT, () -> shifted(x, 0, by));
+            check.throwsJust("5: by " + by, Some.ARGUMENT, () -> Some.shifted(x, 0, by));
         }
         for (int by : Some.row(-60, -2, 2, 60)) {
-            check.throwsJust("5: out of the pitches by " + by, Some.STATE, () -> shifted(x, 0, by));
+            check.throwsJust("5: out of the pitches by " + by, Some.STATE, () -> Some.shifted(x, 0, by));
         }
         check.same("5: nothing has changed", x.correct(0, 0, 1, 1) + 100 * x.correct(0, 2, 30, 1), 3001);
         x.shift(0, 1);
-        check.throwsJust("5: at the end", Some.STATE, () -> shifted(x, 0, 1));
+        check.throwsJust("5: at the end", Some.STATE, () -> Some.shifted(x, 0, 1));
         x.shift(0, -2);
         check.same("5: at the beginning", x.correct(0, 0, 0, 1), 0);
-    }
-
-    private static int shifted(TuneCatalogue x, int tune, int by) {
-        x.shift(tune, by);
-        return by;
     }
 
     private static void retire() {
