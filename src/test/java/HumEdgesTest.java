@@ -258,6 +258,13 @@ public final class HumEdgesTest {
         }
         both("the last of eight", x, 2, 0, 2, 4, 6, 8, 10, 12, 15);
         both("of eight notes all", Some.of(Some.rising(0, 2, 8)), 0, 0, 2, 4, 6, 8, 10, 12, 14);
+        TuneCatalogue y = Some.of(Some.row(0, 60, 60, 1, 60, 60, 2, 60, 60, 3, 60, 60,
+                4, 60, 60, 5, 60, 60, 6, 60, 60, 7, 60, 50));
+        y.setCosts(20, 1, 20);
+        Some.hum(y, 0, 1, 2, 3, 4, 5, 6, 7, 50);
+        check.same("the last one on the 24th note", y.cost(0), 15);
+        y.correct(0, 23, 51, 8);
+        check.same("the last one on the 24th note, with a slip", y.cost(0), 35);
     }
 
     // ---- promises 15 and 16: what a match leaves out
@@ -578,6 +585,7 @@ public final class HumEdgesTest {
         fewerThanTwoPitches();
         asASet();
         upDownStays();
+        shorterThanTheHum();
         asLongAsTheTune();
     }
 
@@ -619,6 +627,21 @@ public final class HumEdgesTest {
             x.retire(tune);
         }
         check.same("all retired", x.likeContour(), 0);
+    }
+
+    private static void shorterThanTheHum() {
+        check.says(19, "whose contour begins with that of the hum; a shorter one does not");
+        TuneCatalogue x = Some.of(Some.row(0), Some.row(30), Some.row(60), Some.row(0, 0), Some.row(0, 60),
+                Some.row(60, 0));
+        for (int[] two : new int[][] {{30, 60}, {30, 30}, {30, 0}, {60, 0}, {0, 0}}) {
+            Some.hum(x, two);
+            int due = two[0] < two[1] ? 16 : two[0] == two[1] ? 8 : 32;
+            check.same("two notes and one", x.likeContour(), due);
+            for (int pitch : Some.row(0, two[1], 60)) {
+                Some.hum(x, two[0], two[1], pitch);
+                check.same("none of three notes", x.likeContour(), 0);
+            }
+        }
     }
 
     private static void upDownStays() {

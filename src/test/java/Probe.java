@@ -121,10 +121,14 @@ final class Probe {
 
     private void laysOpenNotes() {
         put("setCosts", () -> Some.priced(x, 20, 1, 20));
+        List<int[]> pitches = new ArrayList<>();
         for (int tune = 0; tune < tunes(); tune++) {
-            if (notes(tune) > 2) {
-                costOf(tune, everyOther(tune, 2));
-                costOf(tune, everyOther(tune, 1));
+            pitches.add(pitchesAndOneMore(tune));
+        }
+        for (int tune = 0; tune < tunes(); tune++) {
+            if (pitches.get(tune).length > 2) {
+                costOf(tune, everyOther(pitches.get(tune), 2));
+                costOf(tune, everyOther(pitches.get(tune), 1));
             }
         }
         for (int i = 0; i < tunes(); i++) {
@@ -136,13 +140,28 @@ final class Probe {
         }
     }
 
-    /** The pitches of the first note and of every other one from a later one on: to lay them leaves out the rest. */
-    private int[] everyOther(int tune, int from) {
-        int[] pitches = new int[Math.min(12, 1 + (notes(tune) - from + 1) / 2)];
-        for (int i = 0; i < pitches.length; i++) {
-            pitches[i] = model.tunes.get(tune).get(i == 0 ? 0 : from + 2 * (i - 1)).pitch;
+    /** A note is added, since the length of the last one tells nothing before. */
+    private int[] pitchesAndOneMore(int tune) {
+        boolean hasRoom = notes(tune) < 24;
+        int[] pitches = new int[notes(tune) + (hasRoom ? 1 : 0)];
+        for (int note = 0; note < notes(tune); note++) {
+            pitches[note] = model.tunes.get(tune).get(note).pitch;
+        }
+        if (hasRoom) {
+            int more = (pitches[notes(tune) - 1] + 31) % 61;
+            pitches[notes(tune)] = more;
+            put("one more", () -> x.note(tune, more, 1));
         }
         return pitches;
+    }
+
+    /** The first pitch and every other one from a later one on: to lay them leaves out the rest. */
+    private static int[] everyOther(int[] pitches, int from) {
+        int[] some = new int[Math.min(12, 1 + (pitches.length - from + 1) / 2)];
+        for (int i = 0; i < some.length; i++) {
+            some[i] = pitches[i == 0 ? 0 : from + 2 * (i - 1)];
+        }
+        return some;
     }
 
     private void laysOpenLinks() {

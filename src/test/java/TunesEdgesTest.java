@@ -373,6 +373,7 @@ public final class TunesEdgesTest {
         shiftOutOfPitches();
         shiftOneNoteOut();
         shiftAllNotes();
+        shiftsDoNotMatter();
         shiftOfUnknownTune();
         shiftThrowsTheFirst();
     }
@@ -416,15 +417,20 @@ public final class TunesEdgesTest {
     private static void shiftOneNoteOut() {
         check.says(5, "if a pitch would not be from 0 to 60, nothing has changed");
         for (int out = 0; out < 24; out++) {
-            TuneCatalogue x = Some.of(Some.same(30, 24));
-            x.correct(0, out, 0, 1);
-            check.throwsJust("down, note " + out, Some.STATE, () -> Some.shifted(x, 0, -1));
-            x.correct(0, out, 60, 1);
-            check.throwsJust("up, note " + out, Some.STATE, () -> Some.shifted(x, 0, 1));
-            x.correct(0, out, 30, 1);
-            for (int note = 0; note < 24; note++) {
-                check.same("note " + note, x.correct(0, note, 30, 1), 30);
-            }
+            isNotShifted(out, 0, -1);
+            isNotShifted(out, 60, 1);
+            isNotShifted(out, 1, -29);
+            isNotShifted(out, 59, 30);
+        }
+    }
+
+    /** All notes stand, those ahead of the one that would be out of range, too. */
+    private static void isNotShifted(int out, int pitch, int by) {
+        TuneCatalogue x = Some.of(Some.same(30, 24));
+        x.correct(0, out, pitch, 1);
+        check.throwsJust("note " + out + " by " + by, Some.STATE, () -> Some.shifted(x, 0, by));
+        for (int note = 0; note < 24; note++) {
+            check.same("note " + note, x.correct(0, note, 30, 1), note == out ? pitch : 30);
         }
     }
 
@@ -442,6 +448,23 @@ public final class TunesEdgesTest {
         }
         x.shift(0, 0);
         check.same("by 0", x.correct(0, 0, 30, 1), 30);
+    }
+
+    private static void shiftsDoNotMatter() {
+        check.says(5, "tunes are told by steps between notes, so that shifts do not matter");
+        TuneCatalogue x = Some.of(Some.row(0, 12, 5), Some.row(30, 42, 35, 36));
+        Some.hum(x, 20, 33, 26);
+        for (int by : Some.row(0, 48, -48, 1, 47, -48)) {
+            x.shift(0, by);
+            check.same("step", x.step(0, 0) + 100 * x.step(0, 1), 12 - 700);
+            check.same("shared", x.shared(0, 1), 2);
+            check.same("cost", x.cost(0), 2);
+            check.same("costByAll", x.costByAll(0), 2);
+            check.same("found", x.found(0), 0);
+            check.same("likeContour", x.likeContour(), 3);
+            check.same("place", x.place(1, 0), 1);
+        }
+        check.throwsJust("down once more", Some.STATE, () -> Some.shifted(x, 0, -1));
     }
 
     private static void shiftOfUnknownTune() {
