@@ -19,8 +19,8 @@ public final class TuneCatalogue {
 
     private final Tune[] entries = new Tune[MOST_TUNES];
     private int entered;
-    private final Row humRow = new Row(MOST_HUMMED);
-    private final Matching matching = new Matching(humRow);
+    private final Matching matching = new Matching();
+    private final Row humRow = matching.hum;
     private final Links links = new Links();
 
     // Rows that calls fill anew and use at once; kept so that no call makes its own.
@@ -428,19 +428,15 @@ public final class TuneCatalogue {
         }
     }
 
-    /** Finds the cheapest match of the hum with a tune, in two ways. */
+    /** The hum and the costs; finds the cheapest match with a tune, in two ways. */
     private static final class Matching {
-        private final Row hum;
+        private final Row hum = new Row(MOST_HUMMED);
         private int slip = 2;
         private int ornament = 3;
         private int repeat = 1;
 
         /** By pitch and note: the cheapest way to lay the pitch there, NONE if there is none. */
         private final int[] table = new int[MOST_HUMMED * MOST_NOTES];
-
-        Matching(Row hum) {
-            this.hum = hum;
-        }
 
         int cheapestByTable(Tune tune) {
             for (int pitch = 0; pitch < hum.size(); pitch++) {

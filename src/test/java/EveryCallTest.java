@@ -18,10 +18,6 @@ public final class EveryCallTest {
             60, 61, Integer.MAX_VALUE - 60, Integer.MAX_VALUE);
     private static final int[] STEPS = Some.row(Integer.MIN_VALUE, -1, 0, 1, 2, 3, 4, 5, Integer.MAX_VALUE);
 
-    private interface Call {
-        boolean isAsDue(Run run);
-    }
-
     private final State state;
     private final Run untouched;
     private final int callsAhead;

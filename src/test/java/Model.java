@@ -9,7 +9,7 @@ import java.util.Set;
 /**
  * The document's words once more, in other ways than the program's: matches are
  * listed as wholes and priced behindhand, families are merged from the list of
- * links. It knows no ranges of arguments: ModelTest asks those.
+ * links. It knows no ranges of arguments: Run asks those.
  */
 final class Model {
     static final class Note {

@@ -14,6 +14,8 @@ final class Run {
     final Model model = new Model();
     private final StringBuilder story = new StringBuilder();
     private int calls;
+    private String lastCall = "";
+    private String lastAnswer = "";
     private boolean wasRefused;
     private boolean isSmooth = true;
 
@@ -24,6 +26,20 @@ final class Run {
     /** Whether each call so far was answered, none refused, and as was due. */
     boolean isSmooth() {
         return isSmooth;
+    }
+
+    /** The last call with its arguments. */
+    String lastCall() {
+        return lastCall;
+    }
+
+    String lastName() {
+        return lastCall.replaceAll("\\(.*", "");
+    }
+
+    /** What the last call answered, or the name of what it threw. */
+    String lastAnswer() {
+        return lastAnswer;
     }
 
     /** Whether the document wanted an exception of the last call. */
@@ -57,6 +73,8 @@ final class Run {
             got = Check.told(thrown);
         }
         calls++;
+        lastCall = call;
+        lastAnswer = got;
         story.append('\n').append(call).append(" = ").append(got);
         boolean isDue = got.equals(due);
         if (!isDue) {
